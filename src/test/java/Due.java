@@ -1,0 +1,135 @@
+/**
+ * What the tests share: it compares answers, prints those that are not due, and counts them.
+ * A test's main ends with Due.end(), which exits with 1 if one was wrong or none was asked.
+ */
+final class Due {
+    private static int asked = 0;
+    private static int wrong = 0;
+
+    private Due() {
+    }
+
+    /** A call that is to throw; made as a lambda. */
+    interface Call {
+        void run();
+    }
+
+    static void is(String what, long got, long want) {
+        asked++;
+        if (got != want) {
+            wrong++;
+            System.out.println(what + " answered " + got + ", due is " + want);
+        }
+    }
+
+    static void yes(String what, boolean got) {
+        is(what, got ? 1 : 0, 1);
+    }
+
+    static void no(String what, boolean got) {
+        is(what, got ? 1 : 0, 0);
+    }
+
+    static void text(String what, String got, String want) {
+        asked++;
+        if (!got.equals(want)) {
+            wrong++;
+            System.out.println(what + " answered " + got + ", due is " + want);
+        }
+    }
+
+    static void throwing(String what, Class<? extends RuntimeException> want, Call call) {
+        text(what, thrownBy(call), want.getSimpleName());
+    }
+
+    static void throwsNoNode(String what, Call call) {
+        throwing(what, IndexOutOfBoundsException.class, call);
+    }
+
+    static void throwsNoArgument(String what, Call call) {
+        throwing(what, IllegalArgumentException.class, call);
+    }
+
+    static void throwsNoState(String what, Call call) {
+        throwing(what, IllegalStateException.class, call);
+    }
+
+    static String thrownBy(Call call) {
+        try {
+            call.run();
+            return "nothing";
+        } catch (RuntimeException e) {
+            return e.getClass().getSimpleName();
+        }
+    }
+
+    /** The bytes of a text of at most 8 characters, as text() and append() take them. */
+    static long bytes(String letters) {
+        long bytes = 0;
+        for (int k = 0; k < letters.length(); k++) {
+            bytes = bytes << 8 | letters.charAt(k) & 255;
+        }
+        return bytes;
+    }
+
+    /** A text node of any length. */
+    static int text(GraphCheck x, String letters) {
+        int node = x.text(0L);
+        for (int k = 0; k < letters.length(); k += 8) {
+            x.append(node, bytes(letters.substring(k, Math.min(k + 8, letters.length()))));
+        }
+        return node;
+    }
+
+    static int list(GraphCheck x, int... members) {
+        return filled(x, 3, members);
+    }
+
+    static int bag(GraphCheck x, int... members) {
+        return filled(x, 4, members);
+    }
+
+    private static int filled(GraphCheck x, int kind, int[] members) {
+        int node = x.group(kind, 0);
+        for (int member : members) {
+            x.put(node, 0, member);
+        }
+        return node;
+    }
+
+    /** A record of a type, with fields told as name, value, name, value and so on. */
+    static int record(GraphCheck x, int type, int... fields) {
+        int node = x.group(5, type);
+        for (int k = 0; k + 1 < fields.length; k += 2) {
+            x.put(node, fields[k], fields[k + 1]);
+        }
+        return node;
+    }
+
+    /** A node as it is shown, all its characters. */
+    static String shown(GraphCheck x, int node) {
+        StringBuilder row = new StringBuilder();
+        int size = x.shown(node, GraphCheck.NONE);
+        for (int k = 0; k < size; k++) {
+            row.append((char) x.shown(node, k));
+        }
+        return row.toString();
+    }
+
+    /** The steps of the latest way or difference, blanks between. */
+    static String steps(GraphCheck x, int size) {
+        StringBuilder row = new StringBuilder();
+        for (int k = 0; k < size; k++) {
+            row.append(k == 0 ? "" : " ").append(x.step(k));
+        }
+        return row.toString();
+    }
+
+    static void end() {
+        if (wrong > 0 || asked == 0) {
+            System.out.println(wrong + " of " + asked + " answers are wrong");
+            System.exit(1);
+        }
+        System.out.println("      " + asked + " answers are as due");
+    }
+}
