@@ -576,7 +576,7 @@ public final class GraphCheck {
                 case LIST:
                     return haveSameMembers(a, b);
                 case BAG:
-                    return haveMembersInPairs(a, b);
+                    return nodes.sizeOf(a) == nodes.sizeOf(b) && hasMembersOf(a, b);
                 default:
                     return haveSameFields(a, b);
             }
@@ -606,10 +606,6 @@ public final class GraphCheck {
                 }
             }
             return true;
-        }
-
-        private boolean haveMembersInPairs(int a, int b) {
-            return nodes.sizeOf(a) == nodes.sizeOf(b) && hasMembersOf(a, b);
         }
 
         /**
@@ -1136,7 +1132,7 @@ public final class GraphCheck {
     /** The conditions, each a number from 0 on and made of lesser ones alone. */
     private static final class Conditions {
         private static final int CELLS = MAX_NODES + 1;
-        private static final int NOT_NEEDED = 0;
+        private static final int UNKNOWN = 0;
         private static final int NEEDED = 1;
         private static final int FAILS = 2;
         private static final int HOLDS = 3;
@@ -1223,10 +1219,7 @@ public final class GraphCheck {
                 return false;
             }
             int nodeCount = likeness.nodes.size();
-            int cellCount = (condition + 1) * CELLS;
-            for (int cell = 0; cell < cellCount && cell < marks.length; cell++) {
-                marks[cell] = NOT_NEEDED;
-            }
+            // Marks of elder questions may stay: what is read now has been marked as needed now.
             need(condition, node);
             for (int c = condition; c >= 0; c--) {
                 for (int n = NONE; n < nodeCount; n++) {
@@ -1250,7 +1243,7 @@ public final class GraphCheck {
         }
 
         private int markAt(int condition, int node) {
-            return isCell(condition, node) ? marks[condition * CELLS + node + 1] : NOT_NEEDED;
+            return isCell(condition, node) ? marks[condition * CELLS + node + 1] : UNKNOWN;
         }
 
         private void setMark(int condition, int node, int mark) {

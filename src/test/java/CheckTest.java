@@ -12,6 +12,7 @@ public final class CheckTest {
         testCauses();
         testCauseOfNone();
         testWrongCauses();
+        testAfterChanges();
         testCount();
         Due.end();
     }
@@ -215,6 +216,24 @@ public final class CheckTest {
             Due.throwsNoNode("cause(0, " + which + ")", () -> x.cause(0, which));
             Due.throwsNoNode("cause(NONE, " + which + ")", () -> x.cause(NONE, which));
         }
+    }
+
+    /** What is asked just after a change is answered by what is so now. */
+    private static void testAfterChanges() {
+        GraphCheck x = new GraphCheck();
+        int list = Due.list(x);
+        int other = Due.list(x);
+        int equal = x.condition(0, list, 0);
+        Due.yes("same, so it holds", x.check(equal, other));
+        x.put(list, 0, NONE);
+        Due.throwsNoState("a check after a change", () -> x.check(equal, other));
+        x.put(other, 0, NONE);
+        Due.yes("an assumption after a change", x.assume(equal, other));
+        x.put(other, 0, NONE);
+        Due.no("another one", x.assume(equal, other));
+        x.settle();
+        x.put(list, 0, NONE);
+        Due.yes("a check after the end", x.check(equal, other));
     }
 
     private static void testCount() {

@@ -21,6 +21,7 @@ public final class ConditionTest {
         testHas();
         testRingsAndChanges();
         testManyWays();
+        testLastNodes();
         Due.end();
     }
 
@@ -197,6 +198,8 @@ public final class ConditionTest {
         Due.no("it is shorter", x.holds(starts, Due.text(x, "ab")));
         Due.no("it begins otherwise", x.holds(starts, Due.text(x, "abcd")));
         Due.no("it has it later", x.holds(starts, Due.text(x, " ab*")));
+        Due.no("its first character is another one", x.holds(starts, Due.text(x, "xb*")));
+        Due.no("its last one is another one", x.holds(starts, Due.text(x, "ab?")));
         Due.no("a number", x.holds(starts, x.number(1L)));
         Due.no("NONE", x.holds(starts, NONE));
         Due.yes("all begin with no characters", x.holds(x.condition(4, x.text(0L), 0), x.text(0L)));
@@ -371,6 +374,27 @@ public final class ConditionTest {
         Due.yes("a list of it is same", x.holds(each, Due.list(x, ring)));
         x.put(ring, 0, NONE);
         Due.no("NONE is not", x.holds(each, ring));
+    }
+
+    /** Node 63 and NONE, of neighbouring conditions, are not taken for one another. */
+    private static void testLastNodes() {
+        GraphCheck x = new GraphCheck();
+        for (int k = 0; k < 62; k++) {
+            x.number(k);
+        }
+        int list = Due.list(x, NONE);
+        x.put(list, 0, x.text(97L));
+        int isNone = x.condition(7, NONE, 0);
+        int isText = x.condition(7, 2, 0);
+        int either = x.condition(10, isNone, isText);
+        Due.yes("node 63 is a text", x.holds(isText, 63));
+        Due.no("node 63 is not NONE", x.holds(isNone, 63));
+        Due.no("NONE is no text", x.holds(isText, NONE));
+        Due.yes("each is NONE or a text", x.holds(x.condition(11, either, 0), list));
+        Due.no("not each is NONE", x.holds(x.condition(11, isNone, 0), list));
+        Due.no("not each is a text", x.holds(x.condition(11, isText, 0), list));
+        Due.yes("some are texts", x.holds(x.condition(12, isText, 0), list));
+        Due.yes("some are NONE", x.holds(x.condition(12, isNone, 0), list));
     }
 
     /** 12 to the 60th ways lead down these conditions. */

@@ -107,6 +107,12 @@ public final class ShownTest {
         x.rules(true, false, 4);
         Due.text("limit 4", Due.shown(x, text), "\"...");
         Due.throwsNoNode("character 4 of 4", () -> x.shown(text, 4));
+        int twelve = Due.list(x, x.number(12L));
+        Due.text("a list of just the limit", Due.shown(x, twelve), "[12]");
+        x.rules(true, false, 3);
+        Due.text("a list with its end beyond the limit", Due.shown(x, twelve), "...");
+        x.rules(true, false, 5);
+        Due.text("two ends beyond the limit", Due.shown(x, Due.list(x, twelve)), "[[...");
         int list = Due.list(x, text, text, text, text, text, text, text, text, text, text, text, text);
         int lists = Due.list(x, list, list, list, list, list, list, list, list);
         x.rules(true, false, 1000);

@@ -7,6 +7,7 @@ public final class WayTest {
         testChoice();
         testLists();
         testLongest();
+        testAfterLongerOnes();
         testWrong();
         testWayIsKept();
         Due.end();
@@ -82,6 +83,19 @@ public final class WayTest {
         Due.is("step 79", x.step(79), 2);
         Due.throwsNoNode("step 80", () -> x.step(80));
         Due.is("40 steps", x.way(a, a), 40);
+    }
+
+    /** What an elder way went through is not gone through again. */
+    private static void testAfterLongerOnes() {
+        GraphCheck x = new GraphCheck();
+        int longer = Due.text(x, "abcabc");
+        int shorter = Due.text(x, "ab");
+        x.way(longer, longer);
+        Due.is("to a shorter one", x.way(longer, shorter), 6);
+        Due.text("its steps", Due.steps(x, 6), "0 0 1 1 1 1");
+        x.way(longer, longer);
+        Due.is("from a shorter one", x.way(shorter, longer), 6);
+        Due.text("its steps", Due.steps(x, 6), "0 0 2 2 2 2");
     }
 
     private static void testWrong() {
