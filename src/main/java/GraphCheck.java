@@ -488,10 +488,6 @@ public final class GraphCheck {
             return sortCount;
         }
 
-        boolean typesCount() {
-            return typesCount;
-        }
-
         void setTypesCount(boolean typesCount) {
             this.typesCount = typesCount;
             isOld = true;

@@ -5,8 +5,14 @@
 final class Due {
     private static int asked = 0;
     private static int wrong = 0;
+    private static String sentence = "";
 
     private Due() {
+    }
+
+    /** What is asked from here on tests these words of the document: a wrong answer tells them. */
+    static void words(String words) {
+        sentence = words + ": ";
     }
 
     /** A call that is to throw; made as a lambda. */
@@ -18,7 +24,7 @@ final class Due {
         asked++;
         if (got != want) {
             wrong++;
-            System.out.println(what + " answered " + got + ", due is " + want);
+            System.out.println(sentence + what + " answered " + got + ", due is " + want);
         }
     }
 
@@ -34,7 +40,7 @@ final class Due {
         asked++;
         if (!got.equals(want)) {
             wrong++;
-            System.out.println(what + " answered " + got + ", due is " + want);
+            System.out.println(sentence + what + " answered " + got + ", due is " + want);
         }
     }
 
@@ -52,6 +58,10 @@ final class Due {
 
     static void throwsNoState(String what, Call call) {
         throwing(what, IllegalStateException.class, call);
+    }
+
+    static void throwsUnsupported(String what, Call call) {
+        throwing(what, UnsupportedOperationException.class, call);
     }
 
     static String thrownBy(Call call) {
@@ -104,6 +114,35 @@ final class Due {
             x.put(node, fields[k], fields[k + 1]);
         }
         return node;
+    }
+
+    /** One node of each kind, at the place of its kind; 0, or empty, each of them. */
+    static int[] oneOfEach(GraphCheck x) {
+        return new int[] {
+            x.number(0L), x.real(0.0), x.text(0L), x.group(3, 0), x.group(4, 0), x.group(5, 0)
+        };
+    }
+
+    /** What is no node and not NONE either: just outside, and far off. */
+    static int[] noNodes(GraphCheck x) {
+        return outside(-2, x.count(0));
+    }
+
+    /** What is no condition: just outside, and far off. */
+    static int[] noConditions(GraphCheck x) {
+        return outside(-1, x.count(1));
+    }
+
+    /** Just below and just above what there is, 64 (no row here has more), and the farthest off. */
+    static int[] outside(int below, int above) {
+        return new int[] {below, above, Math.max(above, 64), Integer.MAX_VALUE, Integer.MIN_VALUE};
+    }
+
+    /** Numbers 0, 1, 2 .. until there are so many nodes. */
+    static void fill(GraphCheck x, int nodes) {
+        for (int k = x.count(0); k < nodes; k++) {
+            x.number(k);
+        }
     }
 
     /** A node as it is shown, all its characters. */
