@@ -789,6 +789,7 @@ public final class ConditionEdgesTest {
     private static void testHoldsOfNone() {
         testNoSuchCondition();
         testNoSuchNode();
+        testLastNodeAndNone();
         testManyWaysDown();
     }
 
@@ -814,6 +815,23 @@ public final class ConditionEdgesTest {
         }
         Due.yes("NONE", x.holds(0, NONE));
         Due.no("a node", x.holds(0, 0));
+    }
+
+    private static void testLastNodeAndNone() {
+        Due.words("Promise 16: whether a node, or NONE, holds: node 63 and NONE are two");
+        GraphCheck x = new GraphCheck();
+        int list = x.group(3, 0);
+        Due.fill(x, 63);
+        int last = x.text('a');
+        x.put(list, 0, NONE);
+        x.put(list, 0, last);
+        int isNumber = x.condition(KIND, 0, 0);
+        int isText = x.condition(KIND, 2, 0);
+        int isEither = x.condition(ANY, isNumber, isText);
+        Due.no("each is a text or a number", holds(x, EACH, isEither, 0, list));
+        Due.yes("some are", holds(x, SOME, isEither, 0, list));
+        Due.yes("node 63 is", x.holds(isEither, last));
+        Due.no("NONE is not", x.holds(isEither, NONE));
     }
 
     private static void testManyWaysDown() {
