@@ -731,7 +731,7 @@ public final class GraphCheck {
             end = NONE;
             reason = NO_REASON;
             meet(a, b, NONE, NONE);
-            for (int place = 0; reason == NO_REASON && isQueued(place); place++) {
+            for (int place = 0; reason == NO_REASON && place < queued && place < MAX_PAIRS; place++) {
                 int left = queue[place] / SIDES - 1;
                 int right = queue[place] % SIDES - 1;
                 reason = reasonOf(likeness, left, right);
